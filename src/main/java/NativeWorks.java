@@ -416,7 +416,6 @@ public final class NativeWorks {
     final int[] argumentTo;
     final boolean[] elseRead;
     int ifs;
-    int current;
     int told;
     int read;
     int used;
@@ -449,7 +448,6 @@ public final class NativeWorks {
       maker[0] = 0;
       ifsBelow[0] = 0;
       ifs = 0;
-      current = 0;
       told = 0;
       read = 0;
       used = 0;
@@ -478,7 +476,6 @@ public final class NativeWorks {
     }
 
     private void bring(int number) {
-      current = number;
       read++;
       if (depth == 0) {
         told = number + 1;
@@ -547,6 +544,11 @@ public final class NativeWorks {
       }
     }
 
+    /** The line that was brought last, as long as one does not go on behind another. */
+    private int current() {
+      return next[depth] - 1;
+    }
+
     boolean tooMuch() {
       return line.length > Line.MOST || read > MOST_LINES;
     }
@@ -559,7 +561,7 @@ public final class NativeWorks {
     boolean misplaced(int word) {
       boolean open = ifs > ifsBelow[depth];
       boolean inside = depth > 0;
-      boolean noEndif = inside && source.ifEnds[current + 1] >= end[depth];
+      boolean noEndif = inside && source.ifEnds[current() + 1] >= end[depth];
       switch (word) {
         case Line.IF:
           return full() || noEndif;
@@ -568,7 +570,7 @@ public final class NativeWorks {
         case Line.ENDIF:
           return !open;
         case Line.REPT:
-          return full() || inside && source.reptEnds[current + 1] >= end[depth];
+          return full() || inside && source.reptEnds[current() + 1] >= end[depth];
         case Line.MACRO:
           return inside;
         default:
@@ -581,7 +583,7 @@ public final class NativeWorks {
         openIf(false);
         return;
       }
-      int to = source.elses[current + 1];
+      int to = source.elses[current() + 1];
       if (!goBehind(to) && source.sorts[to] == Line.ELSE) {
         openIf(true);
       }
@@ -595,7 +597,7 @@ public final class NativeWorks {
 
     void readElse() {
       ifs--;
-      goBehind(source.ifEnds[current + 1]);
+      goBehind(source.ifEnds[current() + 1]);
     }
 
     void readEndif() {
@@ -611,7 +613,7 @@ public final class NativeWorks {
     }
 
     void readRept(int times) {
-      int from = current + 1;
+      int from = current() + 1;
       int to = source.reptEnds[from];
       if (!goBehind(to) && times > 0 && from < to) {
         push(from, to, times, maker[depth]);
@@ -619,9 +621,9 @@ public final class NativeWorks {
     }
 
     void readMacro(int nameToken) {
-      int from = current + 1;
+      int from = current() + 1;
       int to = source.macroEnd(from);
-      int added = source.addMacro(line, nameToken, source.lineAt[current]);
+      int added = source.addMacro(line, nameToken, source.lineAt[from - 1]);
       goBehind(to);
       if (added != NONE) {
         source.bodyFrom[added] = from;
@@ -1164,13 +1166,17 @@ public final class NativeWorks {
     /** Puts the latest value, or the latest two, to one as a sign tells. */
     void apply(int sign) {
       boolean fine;
-      if (sign >= FRONT) {
-        fine = values >= 1 && front(sign - FRONT);
+      if (sign >= FRONT && values >= 1) {
+        fine = sign == FRONT + '+' || constantAt(values - 1);
+        front(sign - FRONT, values - 1);
       } else if (values < 2) {
         fine = false;
       } else {
         values--;
-        fine = sign == '+' ? sum() : sign == '-' ? difference() : calculation(sign);
+        boolean left = constantAt(values - 1);
+        boolean right = constantAt(values);
+        fine = sign == '+' ? sum(left, right) : sign == '-' ? difference(left, right)
+            : calculation(sign) && left && right;
       }
       if (!fine) {
         line.blame(Line.EXPRESSIONS);
@@ -1181,73 +1187,62 @@ public final class NativeWorks {
       return plus[i] == NO && minus[i] == NO;
     }
 
-    private boolean front(int sign) {
-      int a = values - 1;
-      if (sign == '+') {
-        return true;
-      }
-      boolean fine = constantAt(a);
-      number[a] = sign == '-' ? -number[a] : ~number[a];
-      return fine;
+    private void front(int sign, int a) {
+      number[a] = sign == '-' ? -number[a] : sign == '~' ? ~number[a] : number[a];
     }
 
-    private boolean sum() {
+    private boolean sum(boolean left, boolean right) {
       int a = values - 1;
-      int b = values;
-      boolean fine = constantAt(a) || constantAt(b);
-      if (constantAt(a)) {
-        plus[a] = plus[b];
-        minus[a] = minus[b];
+      if (left) {
+        plus[a] = plus[values];
+        minus[a] = minus[values];
       }
-      number[a] += number[b];
-      return fine;
+      number[a] += number[values];
+      return left || right;
     }
 
-    private boolean difference() {
+    private boolean difference(boolean left, boolean right) {
       int a = values - 1;
-      int b = values;
-      boolean span = plus[a] != NO && minus[a] == NO && plus[b] != NO && minus[b] == NO;
-      boolean fine = constantAt(b) || span;
+      boolean span = !left && !right && minus[a] == NO && minus[values] == NO;
       if (span) {
-        minus[a] = plus[b];
+        minus[a] = plus[values];
       }
-      number[a] -= number[b];
-      return fine;
+      number[a] -= number[values];
+      return right || span;
     }
 
     private boolean calculation(int sign) {
       int a = values - 1;
       long x = number[a];
       long y = number[values];
-      boolean fine = constantAt(a) && constantAt(values);
       plus[a] = NO;
       minus[a] = NO;
       number[a] = 0;
       switch (sign) {
         case '|':
           number[a] = x | y;
-          return fine;
+          return true;
         case '^':
           number[a] = x ^ y;
-          return fine;
+          return true;
         case '&':
           number[a] = x & y;
-          return fine;
+          return true;
         case '<':
           number[a] = x << (y & 63);
-          return fine;
+          return true;
         case '>':
           number[a] = x >>> (y & 63);
-          return fine;
+          return true;
         case '*':
           number[a] = x * y;
-          return fine;
+          return true;
         default:
           if (y == 0) {
             return false;
           }
           number[a] = sign == '/' ? x / y : x % y;
-          return fine;
+          return true;
       }
     }
   }
@@ -2067,8 +2062,8 @@ public final class NativeWorks {
         told[i] = line.isMark(line.at, Line.BYTE) ? 1 : line.isMark(line.at, Line.DWORD) ? 4
             : line.isMark(line.at, Line.QWORD) ? 8 : 0;
         line.at += told[i] != 0 ? 1 : 0;
-        boolean fine = line.kind[line.at] == '[' ? address() && memory(i)
-            : told[i] == 0 && line.isRegister(line.at) ? register(i) : number(i);
+        boolean fine = line.kind[line.at] == '[' ? address() && memoryOperand(i)
+            : told[i] == 0 && line.isRegister(line.at) ? registerOperand(i) : numberOperand(i);
         if (!fine) {
           break;
         }
@@ -2085,7 +2080,7 @@ public final class NativeWorks {
       return false;
     }
 
-    private boolean register(int i) {
+    private boolean registerOperand(int i) {
       int code = (int) line.value[line.at++];
       instruction.kind[i] = Instruction.REGISTER;
       instruction.reg[i] = code % 16;
@@ -2093,7 +2088,7 @@ public final class NativeWorks {
       return true;
     }
 
-    private boolean number(int i) {
+    private boolean numberOperand(int i) {
       if (!expression.read(1, false, 0)) {
         return false;
       }
@@ -2161,7 +2156,7 @@ public final class NativeWorks {
     }
 
     /** The address that was read becomes an operand; false if it does not end. */
-    private boolean memory(int i) {
+    private boolean memoryOperand(int i) {
       instruction.kind[i] = instruction.endAddress() ? Instruction.MEMORY : Instruction.ODD;
       instruction.displacement = expression.number[0];
       instruction.displacementWaits = instruction.base == Instruction.RELATIVE || !expression.isConstant();
@@ -2736,8 +2731,8 @@ public final class NativeWorks {
     }
 
     private void putNumber(long value, int width) {
-      for (int i = 0; i < width; i++) {
-        put((int) (value >> 8 * i));
+      for (int i = 0; i < width && length < bytes.length; i++) {
+        bytes[length++] = (byte) (value >> 8 * i);
       }
     }
 
@@ -2893,12 +2888,12 @@ public final class NativeWorks {
 
     /** Makes an image of all units; false if there is a fault, then the image before stays. */
     boolean make() {
-      fault(0, 0, NONE);
+      tell(0, 0, NONE);
       takeUnits();
       int startSymbol = units.names.find(START, 0, START.length, units.names.count);
       startSymbol = startSymbol == NONE ? NONE : winner(startSymbol);
       if (startSymbol == NONE || !isGlobal(startSymbol)) {
-        fault(1, 0, NONE);
+        tell(1, 0, NONE);
         return false;
       }
       if (hasDoubles()) {
@@ -2915,7 +2910,7 @@ public final class NativeWorks {
         return false;
       }
       if (end - BASE > MOST) {
-        fault(5, 0, NONE);
+        tell(5, 0, NONE);
         return false;
       }
       write();
@@ -2925,7 +2920,7 @@ public final class NativeWorks {
       return true;
     }
 
-    private void fault(int kind, int line, int unit) {
+    private void tell(int kind, int line, int unit) {
       faultKind = kind;
       faultLine = line;
       faultUnit = unit;
@@ -3016,7 +3011,7 @@ public final class NativeWorks {
           }
         }
         if (least != 0) {
-          fault(2, least, u);
+          tell(2, least, u);
           return true;
         }
       }
@@ -3100,7 +3095,7 @@ public final class NativeWorks {
             boolean missing = symbol >= 0 && stands[symbol] == MISSING;
             long value = valueOf(u, w);
             if (missing || wait[Units.WIDTH] == 4 && value != (int) value) {
-              fault(missing ? 3 : 4, statement[Units.LINE], u);
+              tell(missing ? 3 : 4, statement[Units.LINE], u);
               return true;
             }
           }
@@ -3238,13 +3233,24 @@ public final class NativeWorks {
       long at = address;
       long left = count;
       // What may be read has five parts, and some of them may stand side by side.
-      for (int turn = 0; turn < 5; turn++) {
-        long to = reach(at, write);
-        if (to == at) {
-          return false;
+      for (int turn = 0; loaded && turn < 5; turn++) {
+        long to = at;
+        if (at >= STACK_END - STACK && at < STACK_END) {
+          to = STACK_END;
+        } else if (at >= dataFrom && at < dataTo) {
+          to = dataTo;
+        } else if (at >= heap && at < end) {
+          to = end;
+        } else if (!write && at >= textFrom && at < textTo) {
+          to = textTo;
+        } else if (!write && at >= rodataFrom && at < rodataTo) {
+          to = rodataTo;
         }
         if (left <= to - at) {
           return true;
+        }
+        if (to == at) {
+          return false;
         }
         left -= to - at;
         at = to;
@@ -3252,42 +3258,19 @@ public final class NativeWorks {
       return false;
     }
 
-    /** Where the part ends in which an address is; the address itself if it is in none. */
-    private long reach(long at, boolean write) {
-      if (!loaded) {
-        return at;
-      }
-      if (at >= STACK_END - STACK && at < STACK_END) {
-        return STACK_END;
-      }
-      if (at >= dataFrom && at < dataTo) {
-        return dataTo;
-      }
-      if (at >= heap && at < end) {
-        return end;
-      }
-      if (!write && at >= textFrom && at < textTo) {
-        return textTo;
-      }
-      return !write && at >= rodataFrom && at < rodataTo ? rodataTo : at;
-    }
-
     /** The number of some bytes that may be read. */
     long number(long address, int width) {
       long value = 0;
       for (int i = 0; i < width; i++) {
-        value |= (byteAt(address + i) & 0xffL) << 8 * i;
+        long at = address + i - Linker.BASE;
+        long up = address + i - (STACK_END - STACK);
+        if (at >= 0 && at < low.length) {
+          value |= (low[(int) at] & 0xffL) << 8 * i;
+        } else if (up >= 0 && up < STACK) {
+          value |= (stack[(int) up] & 0xffL) << 8 * i;
+        }
       }
       return value;
-    }
-
-    private byte byteAt(long address) {
-      long at = address - Linker.BASE;
-      if (at >= 0 && at < low.length) {
-        return low[(int) at];
-      }
-      at = address - (STACK_END - STACK);
-      return at >= 0 && at < STACK ? stack[(int) at] : 0;
     }
 
     /** Writes some bytes that may be written. */
@@ -3501,7 +3484,7 @@ public final class NativeWorks {
         case Instruction.REGISTER:
           return r[it.reg[i]] & mask(size);
         case Instruction.MEMORY:
-          return load(place, size);
+          return fetched(place, size);
         case Instruction.COUNT:
           return r[1] & 0xff;
         default:
@@ -3509,7 +3492,7 @@ public final class NativeWorks {
       }
     }
 
-    private long load(long address, int size) {
+    private long fetched(long address, int size) {
       if (!memory.may(address, size, false)) {
         halt(NO_ACCESS, address);
         return 0;
@@ -3715,13 +3698,13 @@ public final class NativeWorks {
       }
       boolean otherSign = negative != by < 0;
       by = withSigns && by < 0 ? -by : by;
-      if (by == 0 || Long.compareUnsigned(up, by) >= 0) {
+      if (by == 0 || !below(up, by)) {
         halt(NO_QUOTIENT, 0);
         return;
       }
       long quotient = quotient(up, low, by);
       long most = !withSigns ? mask(size) : otherSign ? top(size) : top(size) - 1;
-      if (Long.compareUnsigned(quotient, most) > 0) {
+      if (below(most, quotient)) {
         halt(NO_QUOTIENT, 0);
         return;
       }
@@ -3735,6 +3718,10 @@ public final class NativeWorks {
       }
     }
 
+    private static boolean below(long a, long b) {
+      return a + Long.MIN_VALUE < b + Long.MIN_VALUE;
+    }
+
     /** Divides 128 bits, bit by bit, by what is more than their upper half; leaves the rest. */
     private long quotient(long up, long low, long by) {
       long quotient = low;
@@ -3743,7 +3730,7 @@ public final class NativeWorks {
         boolean out = rest < 0;
         rest = rest << 1 | quotient >>> 63;
         quotient <<= 1;
-        if (out || Long.compareUnsigned(rest, by) >= 0) {
+        if (out || !below(rest, by)) {
           rest -= by;
           quotient |= 1;
         }
@@ -3797,7 +3784,7 @@ public final class NativeWorks {
         }
         return;
       }
-      long x = load(r[RSP], 8);
+      long x = fetched(r[RSP], 8);
       if (stop != 0) {
         return;
       }
@@ -3841,7 +3828,7 @@ public final class NativeWorks {
 
     private void flow(int op) {
       boolean near = it.count == 1 && it.kind[0] == Instruction.NUMBER;
-      long to = op == 33 ? load(r[RSP], 8) : op == 36 ? value(1, it.size) : op == 34 ? next + it.number
+      long to = op == 33 ? fetched(r[RSP], 8) : op == 36 ? value(1, it.size) : op == 34 ? next + it.number
           : op == 35 ? 0 : near ? next + it.number : value(0, 8);
       if (stop != 0) {
         return;
@@ -3889,7 +3876,7 @@ public final class NativeWorks {
           serve();
           break;
         case 43:
-          long x = load(r[5], 8);
+          long x = fetched(r[5], 8);
           if (stop == 0) {
             r[RSP] = r[5] + 8;
             r[5] = x;
@@ -4021,7 +4008,7 @@ public final class NativeWorks {
         return;
       }
       boolean copies = op == 50 || op == 52;
-      long value = copies ? load(r[6], it.size) : r[0];
+      long value = copies ? fetched(r[6], it.size) : r[0];
       if (stop != 0 || !store(r[7], it.size, value)) {
         return;
       }
