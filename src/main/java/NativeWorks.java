@@ -731,8 +731,8 @@ public final class NativeWorks {
     private static final String SIZED = "cdq cqo cwde cdqe movsb movsd movsq stosb stosd stosq ";
     private static final String JUMPS =
         "jo jno jb jae je jne jbe ja js jns jp jnp jl jge jle jg jc jnc jz jnz ";
-    private static final String SETS =
-        "seto setno setb setae sete setne setbe seta sets setns setp setnp setl setge setle setg setc setnc setz setnz ";
+    private static final String SETS_0 = "seto setno setb setae sete setne setbe seta sets setns ";
+    private static final String SETS_10 = "setp setnp setl setge setle setg setc setnc setz setnz ";
     private static final String MOVES_0 = "cmovo cmovno cmovb cmovae cmove cmovne cmovbe cmova cmovs cmovns ";
     private static final String MOVES_10 = "cmovp cmovnp cmovl cmovge cmovle cmovg cmovc cmovnc cmovz cmovnz ";
     private static final String SECTIONS = "text rodata data bss ";
@@ -798,7 +798,8 @@ public final class NativeWorks {
       teach(OPS_39);
       teach(SIZED);
       teach(JUMPS);
-      teach(SETS);
+      teach(SETS_0);
+      teach(SETS_10);
       teach(MOVES_0);
       teach(MOVES_10);
       teach(SECTIONS);
@@ -1975,7 +1976,9 @@ public final class NativeWorks {
           }
           break;
         case Line.REPT:
-          rept();
+          if (constant()) {
+            rept(expression.number[0]);
+          }
           break;
         case Line.MACRO:
           defineMacro();
@@ -1996,11 +1999,7 @@ public final class NativeWorks {
       }
     }
 
-    private void rept() {
-      if (!constant()) {
-        return;
-      }
-      long times = expression.number[0];
+    private void rept(long times) {
       if (times < 0 || times > 4096) {
         line.blame(Line.NUMBERS);
       } else {
@@ -3208,7 +3207,9 @@ public final class NativeWorks {
       Arrays.fill(low, (byte) 0);
       Arrays.fill(stack, (byte) 0);
       System.arraycopy(image.bytes, 0, low, 0, image.length);
-      for (int i = 0; i < begins.length; i++) {
+      // Behind this image nothing begins but what the one before may have left.
+      long most = Math.max(heap - Linker.BASE, image.length);
+      for (int i = 0; i < most && i < begins.length; i++) {
         begins[i] = image.origins[i] != NONE;
       }
       textFrom = image.from[0];
