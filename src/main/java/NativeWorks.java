@@ -636,8 +636,8 @@ public final class NativeWorks {
       if (full()) {
         return true;
       }
-      int most = source.firstParameter[what + 1] - source.firstParameter[what];
-      return split(token + 1, depth + 1) > most;
+      int most = Math.min(source.firstParameter[what + 1] - source.firstParameter[what], ARGUMENTS);
+      return split(token + 1, depth + 1, most) > most;
     }
 
     void use(int what) {
@@ -659,13 +659,13 @@ public final class NativeWorks {
       ifsBelow[depth] = ifs;
     }
 
-    /** Keeps the arguments from a token on for what is read next; tells how many there are. */
-    private int split(int token, int slot) {
+    /** Keeps at most so many arguments from a token on for what is read next; tells how many there are. */
+    private int split(int token, int slot, int most) {
       int base = slot * Line.MOST;
       System.arraycopy(line.text, 0, arguments, base, line.length);
       int at = slot * ARGUMENTS;
-      Arrays.fill(argumentFrom, at, at + ARGUMENTS, 0);
-      Arrays.fill(argumentTo, at, at + ARGUMENTS, 0);
+      Arrays.fill(argumentFrom, at, at + most, 0);
+      Arrays.fill(argumentTo, at, at + most, 0);
       if (line.kind[token] == Line.END) {
         return 0;
       }
@@ -680,7 +680,7 @@ public final class NativeWorks {
           continue;
         }
         nested += kind == '(' || kind == '[' ? 1 : (kind == ')' || kind == ']') && nested > 0 ? -1 : 0;
-        if (count <= ARGUMENTS) {
+        if (count <= most) {
           if (!begun) {
             argumentFrom[at + count - 1] = base + line.from[i];
           }
@@ -3118,9 +3118,10 @@ public final class NativeWorks {
     }
 
     private void write() {
+      // Behind the image before all is as it was made.
+      Arrays.fill(bytes, 0, length, (byte) 0);
+      Arrays.fill(origins, 0, length, NONE);
       length = end - BASE;
-      Arrays.fill(bytes, (byte) 0);
-      Arrays.fill(origins, NONE);
       Arrays.fill(from, 0);
       Arrays.fill(to, 0);
       for (int i = 0; i < 4 * units.count; i++) {
@@ -3204,10 +3205,11 @@ public final class NativeWorks {
     }
 
     void fill(Linker image) {
-      Arrays.fill(low, (byte) 0);
+      // Behind the heap that was here before nothing was ever written.
+      Arrays.fill(low, 0, (int) (heap - Linker.BASE) + HEAP, (byte) 0);
       Arrays.fill(stack, (byte) 0);
       System.arraycopy(image.bytes, 0, low, 0, image.length);
-      // Behind this image nothing begins but what the one before may have left.
+      // Behind this image and the one before nothing begins.
       long most = Math.max(heap - Linker.BASE, image.length);
       for (int i = 0; i < most && i < begins.length; i++) {
         begins[i] = image.origins[i] != NONE;

@@ -121,6 +121,8 @@ public final class ControlTest {
     b.fault("6@3", "macro n", "endm", "n ,");
     b.fault("6@3", "macro n", "endm", "add: n 1");
     b.fault("1@3", "macro n", "endm", "n ?");
+    b.fault("1@3", "macro n a", "endm", "n 'a'b");
+    b.fault("1@5", "macro n a", "db \\a", "endm", "n 5", "db \\a");
     b.code("2c3b0b", "macro m a", "db \\a", "endm", "m (',')", "m ';'", "db 11");
     b.code("2c", "macro m a", "db \\a", "endm", "m ','");
     b.code("612c62", "macro m a", "db \\a", "endm", "m \"a,b\"");

@@ -105,6 +105,11 @@ public final class InstructionTest {
     b.code("d2e0d3e0d3e1d22348d32b", "shl al, cl", "shl eax, cl", "shl ecx, cl", "shl byte [rbx], cl",
         "shr qword [rbx], cl");
     b.code("d2e1", "shl cl, cl");
+    b.code("d2c3d3c3d2cbd3cbd2ebd3ebd2fbd3fb", "rol bl, cl", "rol ebx, cl", "ror bl, cl", "ror ebx, cl", "shr bl, cl",
+        "shr ebx, cl", "sar bl, cl", "sar ebx, cl");
+    b.code("d0c3d0cbd0e3d0ebd0fb", "rol bl, 1", "ror bl, 1", "shl bl, 1", "shr bl, 1", "sar bl, 1");
+    b.code("c0cb02c1cb02c0eb02c1eb02c0fb02c1fb02", "ror bl, 2", "ror ebx, 2", "shr bl, 2", "shr ebx, 2", "sar bl, 2",
+        "sar ebx, 2");
     b.code("c1e0c8", "shl eax, 200");
     b.code("c1e000", "shl eax, 0");
     b.code("c0e07f", "shl al, 127");

@@ -8,6 +8,7 @@ public final class LinkTest {
     weak();
     needed();
     layout();
+    gaps();
     waits();
     doubles();
     missing();
@@ -204,6 +205,29 @@ public final class LinkTest {
     b.unit(false, "keep", "resb 1", "section data", "keep", "resb 1", "section bss", "keep", "resb 1");
     b.unit(false, "keep", "section bss", "keep");
     links(0x1000 + 0x40);
+  }
+
+  /** Nothing of an image before shows in the gaps of the next one. */
+  private static void gaps() {
+    fresh();
+    b.unit(false, "global start", "start: nop", "rept 20", "dd -1", "endr", "int3");
+    links(82);
+    b.works.load();
+    b.works.clear();
+    b.unit(false, "global start", "start: nop", "call x", "section data", "keep", "db 1", "section bss", "keep", "resb 3");
+    b.unit(false, "global x", "x: nop");
+    links(0x1013);
+    b.works.load();
+    b.due("x", b.symbol("x"), 0x400010);
+    for (int i = 6; i < 16; i++) {
+      b.due("gap", b.works.peek(0x400000 + i), 0);
+      b.due("where", b.works.where(0x400000 + i), -1);
+    }
+    b.due("behind", b.works.where(0x400051), -1);
+    b.works.set(16, 0x400051);
+    b.due("no step", b.works.run(1), 0);
+    b.due("stop", b.works.stop(0), 4);
+    b.due("gap of data", b.works.peek(0x40100f), 0);
   }
 
   private static void waits() {

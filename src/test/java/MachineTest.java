@@ -234,6 +234,21 @@ public final class MachineTest {
     stops(1, 5, 3, 0);
     program("cmp eax, eax", "cmovne eax, [rbx]");
     stops(1, 5, 3, 0);
+    // Data up to the heap: an operand over both, once there is a heap.
+    program("mov [rbx], rax", "mov [rbx], rax", "mov eax, 12", "syscall", "section bss", "keep", "resb 4096");
+    b.works.set(3, 0x401ffc);
+    b.works.set(0, -1);
+    stops(0, 1, 3, 0x401ffc);
+    b.works.set(16, b.works.register(16) + 6);
+    b.works.set(7, 0x402004);
+    stops(2, 2, 0, 0);
+    b.works.set(16, TEXT);
+    b.works.set(0, -1);
+    stops(1, 1, 0, 0);
+    b.due("in the heap", b.works.peek(0x402003), 255);
+    b.due("in bss", b.works.peek(0x401ffc), 255);
+    b.works.set(3, 0x401ffd);
+    stops(0, 1, 3, 0x401ffd);
     program("lea rax, [rbx + rbx*8 - 1]");
     b.works.set(3, 3);
     stops(1, 1, 0, 0);
@@ -516,6 +531,12 @@ public final class MachineTest {
     b.works.set(6, 5);
     stops(3, 3, 0, 0);
     register(0, 0);
+    b.feed("uv");
+    b.due("input", b.works.input(2), 2);
+    b.works.set(6, 0x401000);
+    b.works.set(2, 3);
+    stops(3, 3, 0, 0);
+    register(0, 2);
     b.feed("z");
     b.due("input", b.works.input(1), 1);
     b.works.set(2, 0);
@@ -669,6 +690,24 @@ public final class MachineTest {
     b.works.set(0, 0x55555555555555ffL);
     stops(1, 1, 0, 0);
     register(0, 0x555555555555fe01L);
+    program("mul bl", "imul bl");
+    b.works.set(0, 0x80);
+    b.works.set(3, 2);
+    stops(1, 1, 0, 0);
+    register(0, 0x100);
+    register(17, 2 + 1 + 2048);
+    b.works.set(0, -1);
+    stops(1, 1, 0, 0);
+    register(0, -2);
+    register(17, 2);
+    // What stands in a register that no byte tells, behind one that stands in memory.
+    program("mov [rbx], rcx", "add eax, 1000", "mov [rbx], rcx", "inc eax", "mov [rbx], rcx", "mov edx, 5",
+        "mov [rbx], rcx", "shl edx, 1", "shl edx, cl");
+    b.works.set(3, TOP - 8);
+    b.works.set(1, 2);
+    stops(9, 9, 0, 0);
+    register(0, 1001);
+    register(2, 40);
     program("cmpxchg ecx, edx");
     b.works.set(0, 0x700000005L);
     b.works.set(1, 0x900000005L);

@@ -47,6 +47,12 @@ public final class SourceTest {
     b.fault("1@1", "db \"abc");
     b.fault("1@1", "db \"abc\\\"");
     b.fault("1@1", "db '\\\t'");
+    b.fault("1@1", "db \"\\\t\"");
+    b.fault("1@1", "db \"\\\u00e9\"");
+    b.fault("none", "zaZA_09.: nop");
+    b.fault("1@1", "a@: nop");
+    b.fault("1@1", "a`: nop");
+    b.fault("1@1", "a{: nop");
     b.fault("1@1", "db \"\u00e9\"");
     b.fault("1@2", "nop", "nop\u0001");
     b.fault("1@1", "nop\r");
@@ -86,6 +92,7 @@ public final class SourceTest {
     b.code("05", "db 10 - 3 - 2");
     b.code("02", "db 20 / 5 / 2");
     b.code("07", "db 1 | 2 ^ 4");
+    b.code("0403", "db 6 & 1 << 2, 3 ^ 2 & 4");
     b.code("0d", "db 12 | 13 ^ 9 & 12 ^ 4");
     b.code("18", "db 3 << 1 + 2");
     b.code("0c", "db 4 ^ 2 << 2");
