@@ -1350,7 +1350,6 @@ public final class NativeWorks {
     void empty() {
       count = 0;
       names.cut(0);
-      symbolsFrom = 0;
       statementCount = 0;
       waitCount = 0;
       byteCount = 0;

@@ -83,6 +83,10 @@ public final class ControlTest {
     b.code("00" + "010201" + "030403", "macro m", "db \\@", "n", "db \\@", "endm", "macro n", "db \\@", "endm",
         "n", "m", "m");
     b.code("ebfeebfe", "macro m", "l\\@: jmp l\\@", "endm", "m", "m");
+    b.make("macro m", "db \\@", "endm", "m", "m");
+    b.due("counted anew in each unit", b.unit(false, "macro m", "db \\@", "endm", "m"), 1);
+    b.due("the first is 0", b.bytes(1, 0), "00");
+    b.due("macros of a unit are its own", b.unit(false, "m"), -1);
     b.fault("2@1", "m", "macro m", "endm");
     b.fault("6@4", "macro m", "macro n", "endm", "m");
     b.fault("6@1", "endm");
@@ -116,6 +120,8 @@ public final class ControlTest {
     b.code("000009", m[0], m[1], m[2], "m");
     b.code("000009", m[0], m[1], m[2], "m ; nothing");
     b.code("000009", m[0], m[1], m[2], "m ,,");
+    b.code("000009" + "030009", m[0], m[1], m[2], "m ,,", "m 3 +");
+    b.code("010209" + "000009", m[0], m[1], m[2], "m 1 +, 2 +", "m");
     b.fault("6@4", m[0], m[1], m[2], "m ,,,");
     b.fault("6@3", "macro n", "endm", "n 1");
     b.fault("6@3", "macro n", "endm", "n ,");

@@ -228,6 +228,24 @@ public final class LinkTest {
     b.due("no step", b.works.run(1), 0);
     b.due("stop", b.works.stop(0), 4);
     b.due("gap of data", b.works.peek(0x40100f), 0);
+    b.due("between text and data", b.works.peek(0x400fff), -1);
+    b.works.clear();
+    b.unit(false, "global start", "start: nop", "section rodata", "keep", "db 7");
+    links(0x1001);
+    b.works.load();
+    b.due("rodata", b.works.peek(0x401000), 7);
+    b.due("between text and rodata", b.works.peek(0x400fff), -1);
+    b.works.clear();
+    b.unit(false, "global start", "start: nop");
+    links(1);
+    b.works.load();
+    b.due("no rodata", b.works.peek(0x401000), -1);
+    // A unit with a fault has no labels.
+    fresh();
+    b.unit(false, "global start", "start: call x");
+    b.unit(false, "global x", "x: nop", "foo");
+    b.unit(false, "nop");
+    fails(3, 2, 0);
   }
 
   private static void waits() {

@@ -349,6 +349,14 @@ public final class MachineTest {
     stops(1, 1, 0, 0);
     register(0, Long.MIN_VALUE);
     register(2, 0);
+    // -2 to the power 64 by 3.
+    b.works.set(16, TEXT);
+    b.works.set(0, 0);
+    b.works.set(2, -1);
+    b.works.set(3, 3);
+    stops(1, 1, 0, 0);
+    register(0, -6148914691236517205L);
+    register(2, -1);
     program("div bl");
     b.works.set(0, 0x7777777777770105L);
     b.works.set(3, 2);
@@ -561,8 +569,11 @@ public final class MachineTest {
     b.works.set(2, 6);
     stops(3, 3, 0, 0);
     register(0, -14);
-    b.works.set(2, 0);
+    b.works.set(2, 1);
     b.works.set(6, 1);
+    stops(3, 3, 0, 0);
+    register(0, -14);
+    b.works.set(2, 0);
     stops(3, 3, 0, 0);
     register(0, 0);
     b.works.set(2, -1);
@@ -700,6 +711,28 @@ public final class MachineTest {
     stops(1, 1, 0, 0);
     register(0, -2);
     register(17, 2);
+    program("mul ebx", "imul rax, rsi", "imul edi, edx, -3", "mul rsi");
+    b.works.set(0, 0x8000);
+    b.works.set(3, 0x10000);
+    b.works.set(6, -2);
+    stops(1, 1, 0, 0);
+    register(17, 2);
+    register(2, 0);
+    b.works.set(16, TEXT);
+    stops(1, 1, 0, 0);
+    register(17, 2 + 1 + 2048);
+    register(2, 0x8000);
+    b.works.set(0, 3);
+    stops(1, 1, 0, 0);
+    register(0, -6);
+    register(17, 2);
+    stops(1, 1, 0, 0);
+    register(7, 0xffffffffL & -3 * 0x8000);
+    register(17, 2);
+    b.works.set(0, 1);
+    stops(1, 1, 0, 0);
+    register(17, 2);
+    register(2, 0);
     // What stands in a register that no byte tells, behind one that stands in memory.
     program("mov [rbx], rcx", "add eax, 1000", "mov [rbx], rcx", "inc eax", "mov [rbx], rcx", "mov edx, 5",
         "mov [rbx], rcx", "shl edx, 1", "shl edx, cl");

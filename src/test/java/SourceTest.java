@@ -24,6 +24,7 @@ public final class SourceTest {
     b.code("3b3a", "db \";\", ':'");
     b.code("0a0900615c27", "db '\\n', '\\t', '\\0', '\\a', '\\\\', '\\''");
     b.code("22", "db '\"'");
+    b.code("7e7e20", "db '~', \"~ \"");
     b.code("2722610a", "db \"'\\\"a\\n\"");
     b.code("0f0f1f05", "db 0xf, 0xF, 0x1F, 0b101");
     b.code("ffffffffffffffff", "dq 18446744073709551615");
@@ -159,6 +160,7 @@ public final class SourceTest {
     b.due("data", b.bytes(0, 2), "01000000");
     b.due("bss", b.works.size(0, 3), 8);
     b.due("a byte of bss", b.works.octet(0, 3, 7), 0);
+    b.fault("none", "section bss", "db \"\"");
     b.fault("2@2", "section bss", "db 1");
     b.fault("2@2", "section bss", "nop");
     b.fault("2@2", "section bss", "dd x");
@@ -309,6 +311,8 @@ public final class SourceTest {
     b.fault("5@7", "macro m", "a\\@:", "endm", "rept 1024", "m", "endr", "global b");
     b.fault("5@7", "macro m", "a\\@:", "endm", "rept 1024", "m", "endr", "b equ 5");
     b.fault("5@7", "macro m", "a\\@:", "endm", "rept 1024", "m", "endr", "dq b");
+    b.fault("5@7", "macro m", "a\\@:", "endm", "rept 1024", "m", "endr", "dq b + 1");
+    b.fault("4@7", "macro m", "a\\@:", "endm", "rept 1024", "m", "endr", "dq b + c");
     b.fault("none", "macro m", "a\\@:", "endm", "rept 1024", "m", "endr", "dq a5");
     // A label without room is none: it is no second one, and no latest one.
     b.fault("2@7", "macro m", "a\\@:", "endm", "rept 1024", "m", "endr", "b: b: foo");
@@ -350,7 +354,31 @@ public final class SourceTest {
     b.due("line", b.works.fault(1), 3);
     b.due("third", b.unit(false, "nop"), 2);
     b.works.clear();
-    b.due("room again", b.unit(false, "resb 65536"), 0);
+    b.due("room again", b.unit(false, "resb 65536", "section data", "resb 65536"), 0);
+    b.due("none more", b.unit(false, "nop"), -1);
+    b.works.clear();
+    b.due("as many waits as can be", b.unit(false, "rept 4096", "dd x", "endr"), 0);
+    b.works.clear();
+    b.due("and again", b.unit(false, "rept 4096", "dd x", "endr"), 0);
+    b.works.clear();
+    b.due("as many statements as can be", b.unit(false, "rept 4096", "resb 0", "resb 0", "endr"), 0);
+    b.works.clear();
+    b.due("and again", b.unit(false, "rept 4096", "resb 0", "resb 0", "endr"), 0);
+    b.works.clear();
+    // A unit with a fault leaves no trace of what it named, defined or put.
+    for (int i = 0; i < 3; i++) {
+      b.due("a fault", b.unit(false, "macro m", "a\\@: dd -1, b", "endm", "rept 1000", "m", "endr",
+          "section data", "resb 65536", "rept 3000", "dd b", "resb 0", "endr", "foo"), -1);
+      b.due("kind", b.works.fault(0), 2);
+    }
+    b.due("after faults", b.unit(false, "macro m", "a\\@:", "endm", "rept 1023", "m", "endr", "rept 4095", "dd b",
+        "resb 0", "endr", "dd b", "section data", "resb 65536"), 0);
+    b.due("data is 0", b.works.octet(0, 2, 65535) + b.works.octet(0, 2, 0) + b.works.octet(0, 0, 0), 0);
+    b.works.clear();
+    b.due("minus ones", b.unit(false, "rept 4096", "dd -1", "endr"), 0);
+    b.works.clear();
+    b.due("nothing", b.unit(false, "resb 16384"), 0);
+    b.due("shows of them", b.works.octet(0, 0, 0) + b.works.octet(0, 0, 16383), 0);
     b.make("rept 4095", "dd x", "endr");
     b.due("second", b.unit(false, "dd x"), 1);
     b.due("no room for what waits", b.unit(false, "nop", "dd x"), -1);
