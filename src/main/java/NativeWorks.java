@@ -2174,7 +2174,7 @@ public final class NativeWorks {
         return;
       }
       boolean toExpression = it.count == 1 && it.kind[0] == Instruction.NUMBER;
-      if (toExpression && it.size == 0 && (it.op == Instruction.JUMP || it.op == Instruction.IF)) {
+      if (toExpression && (it.op == Instruction.JUMP || it.op == Instruction.IF)) {
         jump();
         return;
       }
@@ -2199,18 +2199,20 @@ public final class NativeWorks {
       if (it.count > 3) {
         return false;
       }
+      boolean shifts = it.op >= Instruction.ROLL && it.op <= Instruction.SIGNED_RIGHT;
+      boolean sizeless = it.op >= Instruction.JUMP && it.op <= Instruction.IF;
       for (int i = 0; i < it.count; i++) {
         int size = told[i];
         boolean second = i == 1;
-        boolean shifts = it.op >= Instruction.ROLL && it.op <= Instruction.SIGNED_RIGHT;
         if (second && shifts && it.kind[i] == Instruction.REGISTER && it.reg[i] == 1 && size == 1) {
           it.kind[i] = Instruction.COUNT;
         } else if (second && it.op >= Instruction.ZERO && it.op <= Instruction.WIDEN) {
           if (size != (it.op == Instruction.WIDEN ? 4 : 1)) {
             return false;
           }
-        } else if ((it.op == Instruction.JUMP || it.op == Instruction.CALL) && it.kind[i] != Instruction.NUMBER) {
-          if (size != 0 && size != 8) {
+        } else if (sizeless) {
+          // An expression has no size here, whatever is told ahead of it; all else has 8.
+          if (it.kind[i] != Instruction.NUMBER && size != 0 && size != 8) {
             return false;
           }
         } else if (size != 0) {

@@ -142,7 +142,11 @@ public final class InstructionTest {
     b.fault("2@1", "jmp eax");
     b.fault("2@1", "jmp dword [rbx]");
     b.fault("2@1", "call al");
+    b.code("eb00", "jmp dword x", "x:");
+    b.code("e800000000c20500", "call byte x", "ret dword 5");
     b.fault("2@1", "jz rax");
+    b.fault("2@1", "jz qword [rax]");
+    b.fault("2@1", "ret qword [rax]");
     b.fault("2@1", "jmp");
     b.fault("2@1", "jmp 5, 6");
     b.code("c3c20500c2ffffc20000", "ret", "ret 5", "ret 65535", "ret 0");
