@@ -403,6 +403,8 @@ public final class NativeWorks {
     final Line line;
     /** What is read in what: the source itself is 0, a macro or rept has the next number. */
     int depth;
+    /** Of each: its first line, the one behind its last, the next one; how often; the depth of whose arguments count;
+     * how many ifs were open ahead of it; of a macro which one, and how many were read ahead of it. */
     final int[] first;
     final int[] end;
     final int[] next;
@@ -411,11 +413,14 @@ public final class NativeWorks {
     final int[] ifsBelow;
     final int[] macro;
     final int[] made;
+    /** The arguments by depths: the line that has them, and where each begins and ends. */
     final byte[] arguments;
     final int[] argumentFrom;
     final int[] argumentTo;
+    /** Of each open if: whether its else was read. */
     final boolean[] elseRead;
     int ifs;
+    /** The line that is told of what is read now. */
     int told;
     int read;
     int used;
