@@ -18,10 +18,12 @@ public final class NativeWorks {
   private int faultUnit;
 
   public NativeWorks() {
-    tape = new byte[TAPE];
-    units = new Units();
-    assembler = new Assembler(tape, units);
-    linker = new Linker(units);
+    byte[] bytes = new byte[TAPE];
+    Units all = new Units();
+    tape = bytes;
+    units = all;
+    assembler = new Assembler(bytes, all);
+    linker = new Linker(all);
     machine = new Machine();
     fed = 0;
     faultKind = 0;
@@ -1654,10 +1656,11 @@ public final class NativeWorks {
     int faultLine;
 
     Assembler(byte[] tape, Units all) {
-      line = new Line();
+      Line read = new Line();
+      line = read;
       units = all;
-      reader = new Reader(new Source(tape, line.words), line);
-      expression = new Expression(line, units);
+      reader = new Reader(new Source(tape, read.words), read);
+      expression = new Expression(read, all);
       instruction = new Instruction();
       told = new int[4];
     }
