@@ -3321,6 +3321,7 @@ public final class NativeWorks {
     private static final int PLACES = 16;
     private static final int STREAM = 65536;
     private static final int RSP = 4;
+    private static final long UPPER_BIT = 1L << 63;
 
     private static final int CARRY = 1;
     private static final int PARITY = 4;
@@ -3730,8 +3731,9 @@ public final class NativeWorks {
       }
     }
 
+    /** Whether one number is less than another, both without signs. */
     private static boolean below(long a, long b) {
-      return a + Long.MIN_VALUE < b + Long.MIN_VALUE;
+      return a + UPPER_BIT < b + UPPER_BIT;
     }
 
     /** Divides 128 bits, bit by bit, by what is more than their upper half; leaves the rest. */
