@@ -361,8 +361,7 @@ public final class NativeWorks {
       if (macro == NONE) {
         return NONE;
       }
-      int count = macro == 0 ? 0 : firstParameter[macro];
-      firstParameter[macro] = count;
+      int count = firstParameter[macro];
       for (int i = token + 1; i < line.count && count < PARAMETERS; i++) {
         if (line.kind[i] == Line.NAME) {
           parameterFrom[count] = lineFrom + line.from[i];

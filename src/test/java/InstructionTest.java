@@ -222,7 +222,10 @@ public final class InstructionTest {
     b.code("8b042505000000", "mov eax, [5]");
     b.code("8b0425ffffffff", "mov eax, [-1]");
     b.code("448a38", "mov r15b, [rax]");
-    b.code("408830", "mov [rax], sil");
+    b.code("408830408820", "mov [rax], sil", "mov [rax], spl");
+    b.works = new NativeWorks();
+    b.due("an odd address", b.unit(false, "mov eax, [rax + rbx + rcx]"), -1);
+    b.due("leaves no trace", b.unit(false, "mov eax, [rax + rbx]"), 0);
     b.code("8810", "mov [rax], dl");
   }
 

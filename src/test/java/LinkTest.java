@@ -329,6 +329,10 @@ public final class LinkTest {
     b.unit(false, "global start", "start: nop");
     b.unit(false, "nop", "keep", "macro m", "nop", "dq x", "endm", "nop", "m");
     fails(3, 8, 1);
+    fresh();
+    b.unit(false, "keep", "dq x");
+    b.unit(false, "global start", "start: nop");
+    fails(3, 2, 0);
     // Labels that other units do not see are missing there.
     fresh();
     b.unit(false, "global start", "start: call x");

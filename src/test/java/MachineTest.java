@@ -627,6 +627,14 @@ public final class MachineTest {
     b.due("kept", b.works.peek(0x401000), 6);
     b.works.load();
     register(18, 0x401000);
+    b.works.set(7, 0x411000);
+    stops(3, 3, 0, 0);
+    b.due("0 in a new load", b.works.peek(0x401000), 0);
+    b.works.poke(0x410fff, 5);
+    b.works.load();
+    b.works.set(7, 0x411000);
+    stops(3, 3, 0, 0);
+    b.due("0 at the heap's end", b.works.peek(0x410fff), 0);
   }
 
   private static void services() {
@@ -701,6 +709,19 @@ public final class MachineTest {
     b.works.set(0, 0x55555555555555ffL);
     stops(1, 1, 0, 0);
     register(0, 0x555555555555fe01L);
+    program("bt rax, rbx", "inc ecx", "dec edx", "bt eax, ebx");
+    b.works.set(0, 1L << 36);
+    b.works.set(3, 64 + 36);
+    b.works.set(1, 0x7fffffff);
+    b.works.set(2, 0x80000000L);
+    stops(1, 1, 0, 0);
+    register(17, 2 + 1);
+    stops(1, 1, 0, 0);
+    register(17, 2 + 1 + 2048 + 128 + 4);
+    stops(1, 1, 0, 0);
+    register(17, 2 + 1 + 2048 + 4);
+    stops(1, 1, 0, 0);
+    register(17, 2 + 2048 + 4);
     program("mul bl", "imul bl");
     b.works.set(0, 0x80);
     b.works.set(3, 2);

@@ -328,7 +328,10 @@ public final class SourceTest {
     b.fault("5@4", "rept 4095", "jmp $", "endr", "mov dword [x], y");
     b.fault("none", "rept 2048", "mov dword [x], y", "endr");
     b.fault("none", "resb 65536", "section rodata", "resb 65536");
-    b.fault("5@4", "resb 65536", "section rodata", "resb 65536", "db 1");
+    b.fault("5@4", "resb 65536", "section rodata", "resb 65536", "db 1", "", "");
+    b.fault("5@4", "resb 65536", "section rodata", "resb 65536", "nop", "", "");
+    b.fault("5@4", "resb 65536", "section rodata", "resb 65536", "resb 1", "", "");
+    b.fault("5@4", "resb 65536", "section rodata", "resb 65532", "call x", "", "");
     b.fault("none", "resb 65536", "section rodata", "resb 65536", "section bss", "resb 65536");
     b.fault("5@5", "resb 65536", "section rodata", "resb 65535", "nop", "nop");
     // Bytes of jumps and align show at the end: the first statement behind which a section is too long.
