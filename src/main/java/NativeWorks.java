@@ -216,8 +216,9 @@ public final class NativeWorks {
       for (int i = at; i < at + length; i++) {
         hash = 31 * hash + text[i];
       }
-      // Each older one has a lower number, so the chain ends.
-      for (int i = newest[hash & SLOTS - 1]; i != NONE; i = older[i]) {
+      int i = newest[hash & SLOTS - 1];
+      // Each older one has a lower number: there are no more than all.
+      for (int turn = 0; turn < count && i != NONE; turn++, i = older[i]) {
         if (i < below && from[i + 1] - from[i] == length) {
           int same = 0;
           while (same < length && letters[from[i] + same] == text[at + same]) {
@@ -1265,17 +1266,16 @@ public final class NativeWorks {
     private static final int BYTES = 131072;
     private static final int SECTION_BYTES = 65536;
 
-    /** Of a unit: its first symbol, statement, value that waits and byte, and so on; four for its sections. */
+    /** Of a unit: its first symbol, statement and value that waits, and so on; four for its sections. */
     static final int SYMBOL = 0;
     static final int STATEMENT = 1;
     static final int WAIT = 2;
-    static final int BYTE = 3;
-    static final int LIBRARY = 4;
-    static final int COUNTED = 5;
-    static final int FROM = 6;
-    static final int SIZE = 10;
-    static final int KEEP = 14;
-    private static final int ROW = 18;
+    static final int LIBRARY = 3;
+    static final int COUNTED = 4;
+    static final int FROM = 5;
+    static final int SIZE = 9;
+    static final int KEEP = 13;
+    private static final int ROW = 17;
 
     /** Of a symbol. Ahead of a label are so many statements of all. */
     static final int UNIT = 0;
@@ -1368,7 +1368,6 @@ public final class NativeWorks {
       row[SYMBOL] = names.count;
       row[STATEMENT] = statementCount;
       row[WAIT] = waitCount;
-      row[BYTE] = byteCount;
       row[LIBRARY] = library ? 1 : 0;
       symbolsFrom = names.count;
       labelCount = 0;
@@ -1381,7 +1380,6 @@ public final class NativeWorks {
       names.cut(row[SYMBOL]);
       statementCount = row[STATEMENT];
       waitCount = row[WAIT];
-      byteCount = row[BYTE];
       counted -= row[COUNTED];
     }
 
@@ -1392,7 +1390,6 @@ public final class NativeWorks {
       row[SYMBOL] = names.count;
       row[STATEMENT] = statementCount;
       row[WAIT] = waitCount;
-      row[BYTE] = byteCount;
     }
 
     void beginSymbol(int symbol) {
@@ -1559,9 +1556,6 @@ public final class NativeWorks {
           wait[PLUS] = Expression.NO;
           wait[MINUS] = Expression.NO;
         }
-        if (statement[KIND] == LONG) {
-          wait[OFFSET] = statement[ORIGIN] == ALWAYS ? 1 : 2;
-        }
       }
     }
 
@@ -1719,7 +1713,7 @@ public final class NativeWorks {
     /** What comes ahead of a statement's grammar: where it may stand, labels and other new names, its word. */
     private void begin() {
       first = 0;
-      while (line.kind[first] == Line.NAME && line.kind[first + 1] == ':') {
+      while (first < line.count && line.kind[first] == Line.NAME && line.kind[first + 1] == ':') {
         first += 2;
       }
       word = wordAt(first);
@@ -2984,7 +2978,9 @@ public final class NativeWorks {
     /** Whether a unit that is taken misses a symbol's name, and none that is taken has it. */
     private boolean isMissed(int symbol) {
       boolean missed = false;
-      for (int i = older(symbol, units.names.count); i != NONE; i = older(symbol, i)) {
+      int i = older(symbol, units.names.count);
+      // A unit has a name once.
+      for (int turn = 0; turn < Units.MOST && i != NONE; turn++, i = older(symbol, i)) {
         if (isTaken(i)) {
           if (isGlobal(i) || isWeakLabel(i)) {
             return false;
@@ -2999,7 +2995,8 @@ public final class NativeWorks {
     private int winner(int symbol) {
       int global = NONE;
       int weak = NONE;
-      for (int i = older(symbol, units.names.count); i != NONE; i = older(symbol, i)) {
+      int i = older(symbol, units.names.count);
+      for (int turn = 0; turn < Units.MOST && i != NONE; turn++, i = older(symbol, i)) {
         if (isTaken(i)) {
           global = isGlobal(i) ? i : global;
           weak = isWeakLabel(i) ? i : weak;

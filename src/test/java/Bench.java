@@ -1,7 +1,12 @@
 /** What the tests share: a NativeWorks, texts fed to it, and a count of the answers that are not due. */
 final class Bench {
+  /** Where the text begins, and where the stack ends. */
+  static final long TEXT = 0x400000L;
+  static final long TOP = 0x7ffff000L;
+
   NativeWorks works = new NativeWorks();
   private int wrong = 0;
+  private String about = "Answers";
 
   void feed(String text) {
     for (int i = 0; i < text.length(); i += 20) {
@@ -41,6 +46,19 @@ final class Bench {
     works.load();
   }
 
+  /** A fresh works with a program that begins with its first line, linked and loaded. */
+  void program(String... lines) {
+    String[] all = new String[lines.length + 2];
+    all[0] = "global start";
+    all[1] = "start:";
+    System.arraycopy(lines, 0, all, 2, lines.length);
+    start(all);
+  }
+
+  void fresh() {
+    works = new NativeWorks();
+  }
+
   boolean link() {
     try {
       works.link();
@@ -48,6 +66,40 @@ final class Bench {
     } catch (IllegalStateException e) {
       return false;
     }
+  }
+
+  /** link() answers a length; its fault is what is seen of it if it does not. */
+  void links(int length) {
+    int got = -1;
+    try {
+      got = works.link();
+    } catch (IllegalStateException e) {
+      got = -100 - works.fault(0);
+    }
+    due("link", got, length);
+  }
+
+  void linkFails(int kind, int line, int unit) {
+    due("link fails", link(), false);
+    latestFault(kind, line, unit);
+  }
+
+  /** A unit of lines is refused, with a fault. */
+  void refused(int kind, int line, int unit, String... lines) {
+    due("unit of: " + String.join(" / ", lines), unit(false, lines), -1);
+    latestFault(kind, line, unit);
+  }
+
+  /** A unit of lines becomes the one with a number. */
+  void taken(int number, String... lines) {
+    due("unit of: " + String.join(" / ", lines), unit(false, lines), number);
+    latestFault(0, 0, -1);
+  }
+
+  void latestFault(int kind, int line, int unit) {
+    due("kind", works.fault(0), kind);
+    due("line", works.fault(1), line);
+    due("unit", works.fault(2), unit);
   }
 
   /** The address of a symbol, or -1. */
@@ -58,6 +110,36 @@ final class Bench {
     } catch (java.util.NoSuchElementException e) {
       return -1;
     }
+  }
+
+  /** What run() throws, or how many steps it did. */
+  String run(int n) {
+    try {
+      return Integer.toString(works.run(n));
+    } catch (IllegalArgumentException e) {
+      return "argument";
+    } catch (IllegalStateException e) {
+      return "state";
+    }
+  }
+
+  void stops(int steps, int most, int kind, long value) {
+    due("steps", run(most), Integer.toString(steps));
+    due("stop", works.stop(0), kind);
+    due("its value", works.stop(1), value);
+  }
+
+  void register(int k, long want) {
+    due("register " + k, works.register(k), want);
+  }
+
+  /** A number of some bytes of the machine. */
+  long number(long address, int width) {
+    long number = 0;
+    for (int i = width - 1; i >= 0; i--) {
+      number = number << 8 | works.peek(address + i);
+    }
+    return number;
   }
 
   String bytes(int unit, int section) {
@@ -87,6 +169,11 @@ final class Bench {
     due("bytes of: " + String.join(" / ", lines), got, want);
   }
 
+  /** The sentence of the document that the next answers are about; told with those that are not due. */
+  void about(String sentence) {
+    about = sentence;
+  }
+
   void due(String what, long got, long want) {
     due(what, Long.toString(got), Long.toString(want));
   }
@@ -98,7 +185,7 @@ final class Bench {
   void due(String what, String got, String want) {
     if (!got.equals(want)) {
       wrong++;
-      System.out.println(what + ": answered " + got + ", due is " + want);
+      System.out.println(about + ": " + what + ": answered " + got + ", due is " + want);
     }
   }
 
