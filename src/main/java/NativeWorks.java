@@ -218,7 +218,7 @@ public final class NativeWorks {
       }
       int i = newest[hash & SLOTS - 1];
       // Each older one has a lower number: there are no more than all.
-      for (int turn = 0; turn < count && i != NONE; turn++, i = older[i]) {
+      for (int turn = 0; turn < count && i != NONE; turn++) {
         if (i < below && from[i + 1] - from[i] == length) {
           int same = 0;
           while (same < length && letters[from[i] + same] == text[at + same]) {
@@ -228,6 +228,7 @@ public final class NativeWorks {
             return i;
           }
         }
+        i = older[i];
       }
       return NONE;
     }
@@ -2980,13 +2981,14 @@ public final class NativeWorks {
       boolean missed = false;
       int i = older(symbol, units.names.count);
       // A unit has a name once.
-      for (int turn = 0; turn < Units.MOST && i != NONE; turn++, i = older(symbol, i)) {
+      for (int turn = 0; turn < Units.MOST && i != NONE; turn++) {
         if (isTaken(i)) {
           if (isGlobal(i) || isWeakLabel(i)) {
             return false;
           }
           missed |= hasFlags(i, 0, Units.LABEL | Units.CONSTANT | Units.WEAK);
         }
+        i = older(symbol, i);
       }
       return missed;
     }
@@ -2996,11 +2998,12 @@ public final class NativeWorks {
       int global = NONE;
       int weak = NONE;
       int i = older(symbol, units.names.count);
-      for (int turn = 0; turn < Units.MOST && i != NONE; turn++, i = older(symbol, i)) {
+      for (int turn = 0; turn < Units.MOST && i != NONE; turn++) {
         if (isTaken(i)) {
           global = isGlobal(i) ? i : global;
           weak = isWeakLabel(i) ? i : weak;
         }
+        i = older(symbol, i);
       }
       return global != NONE ? global : weak;
     }

@@ -14,6 +14,7 @@ public final class CodeEdgesTest {
     indexes();
     oddAddresses();
     prefixes();
+    registers();
     told();
     ownSizes();
     noSizes();
@@ -147,6 +148,9 @@ public final class CodeEdgesTest {
     b.code("8b040b" + "8b440b7f" + "8b440b80" + "8b840b80000000", "mov eax, [rbx + rcx]", "mov eax, [rbx + rcx + 127]",
         "mov eax, [rbx + rcx - 128]", "mov eax, [rbx + rcx + 128]");
     b.code("8b0424" + "8b44247f" + "8b842480000000", "mov eax, [rsp]", "mov eax, [rsp + 127]", "mov eax, [rsp + 128]");
+    b.about("III: s 0 without an index");
+    b.code("8b04c8" + "8b0424" + "8b04c8" + "8b042505000000" + "8b04cd00000000" + "418b0424", "mov eax, [rax + rcx*8]", "mov eax, [rsp]",
+        "mov eax, [rax + rcx*8]", "mov eax, [5]", "mov eax, [rcx*8]", "mov eax, [r12]");
     b.about("III: four bytes without a base, and with base 16");
     b.code("8b042500000000" + "8b042501000000" + "8b040d00000000" + "8b044d7f000000" + "8b0500000000", "mov eax, [0]",
         "mov eax, [1]", "mov eax, [rcx*1]", "mov eax, [rcx*2 + 127]", "mov eax, [rel 0]");
@@ -255,6 +259,29 @@ public final class CodeEdgesTest {
         "cqo", "cdqe", "bswap rbx", "movsq", "rep stosq");
     b.code("4153" + "415b" + "41ff33" + "418f03" + "41ffe3" + "41ffd3" + "42ff2443", "push r11", "pop r11",
         "push [r11]", "pop [r11]", "jmp r11", "call r11", "jmp [rbx + r8*2]");
+  }
+
+  private static void registers() {
+    b.about("II: REGISTERS 0 .. 15 of 8, 4 and 1 bytes");
+    String[][] names = {
+      {"rax", "rcx", "rdx", "rbx", "rsp", "rbp", "rsi", "rdi", "r8", "r9", "r10", "r11", "r12", "r13", "r14", "r15"},
+      {"eax", "ecx", "edx", "ebx", "esp", "ebp", "esi", "edi", "r8d", "r9d", "r10d", "r11d", "r12d", "r13d", "r14d", "r15d"},
+      {"al", "cl", "dl", "bl", "spl", "bpl", "sil", "dil", "r8b", "r9b", "r10b", "r11b", "r12b", "r13b", "r14b", "r15b"}
+    };
+    for (int k = 0; k < 16; k++) {
+      String low = String.format("%02x", 0xc0 + k % 8);
+      b.code((k < 8 ? "48" : "49") + "ff" + low, "inc " + names[0][k]);
+      b.code((k < 8 ? "" : "41") + "ff" + low, "inc " + names[1][k]);
+      b.code((k >= 8 ? "41" : k >= 4 ? "40" : "") + "fe" + low, "inc " + names[2][k]);
+      b.code((k < 8 ? "48" : "4c") + "01" + String.format("%02x", 0xc1 + 8 * (k % 8)), "add rcx, " + names[0][k]);
+      b.code((k < 8 ? "" : "44") + "8b" + String.format("%02x", 3 + 8 * (k % 8)), "mov " + names[1][k] + ", [rbx]");
+      b.code((k < 8 ? "" : "41") + String.format("%02x", 0x50 + k % 8), "push " + names[0][k]);
+      for (String[] sort : names) {
+        b.fault("3@1", sort[k] + ": nop");
+        b.fault("1@1", "db " + sort[k]);
+      }
+    }
+    fails("2", "inc ah", "inc ax", "inc r16", "inc r8w", "inc rip", "inc RAX", "inc sp", "inc r7", "inc r8l");
   }
 
   private static void told() {

@@ -430,6 +430,16 @@ public final class ControlEdgesTest {
     b.fault("6@2", "macro m", "m");
     b.fault("6@2", "if 1", "if 1");
     b.fault("none", "if 1", "if 1", "endif", "endif");
+    b.about("what was not ended in one unit is not seen in the next one");
+    String[][] open = {{"if 1", "nop"}, {"if 0", "nop"}, {"rept 2", "nop"}, {"macro m", "nop"}, {"if 1", "else"}, {"if 0", "else"},
+        {"macro m", "endm\nrept 1\nm"}};
+    b.fresh();
+    for (String[] lines : open) {
+      b.refused(6, String.join("\n", lines).split("\n").length, 0, lines);
+      b.taken(0, "nop", "if 1", "db 1", "else", "db 2", "endif");
+      b.due("size", b.works.size(0, 0), 2);
+      b.works.clear();
+    }
     b.about("ahead of a SPAN and of sections that are too long");
     b.fault("6@3", "dq x - y", "resb 65536", "if 1");
   }

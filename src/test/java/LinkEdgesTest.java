@@ -688,6 +688,31 @@ public final class LinkEdgesTest {
     b.due("bss is 0", b.works.peek(TEXT + 0x1000), 0);
     b.works.set(16, TEXT + 4001);
     b.stops(0, 1, 4, TEXT + 4001);
+    b.works.clear();
+    b.taken(0, "global first, start", "first: start: nop");
+    b.links(1);
+    b.due("first", b.symbol("first"), TEXT);
+    b.works.clear();
+    b.taken(0, "global start", "start: nop");
+    b.links(1);
+    b.due("first of an image before", b.symbol("first"), -1);
+    b.about("10: the sections are where this image has them");
+    int[] sizes = {1, 5000, 9000, 1, 5000};
+    for (int size : sizes) {
+      int page = (size + 4095) / 4096 * 4096;
+      b.works.clear();
+      b.taken(0, "global start", "start: resb " + size, "section rodata", "keep", "db 7", "section data", "keep", "db 8", "section bss",
+          "keep", "resb 1");
+      b.links(page + 4096 + 0x11);
+      b.works.load();
+      b.due("below rodata", b.works.peek(TEXT + page - 1), size == page ? 0 : -1);
+      b.due("rodata", b.works.peek(TEXT + page), 7);
+      b.due("behind rodata", b.works.peek(TEXT + page + 1), -1);
+      b.due("below data", b.works.peek(TEXT + page + 4095), -1);
+      b.due("data", b.works.peek(TEXT + page + 4096), 8);
+      b.due("bss", b.works.poke(TEXT + page + 4096 + 16, 1), true);
+      b.due("behind bss", b.works.poke(TEXT + page + 4096 + 17, 1), false);
+    }
     b.about("9: names of images before don't take room");
     for (int i = 0; i < 8; i++) {
       b.works.clear();

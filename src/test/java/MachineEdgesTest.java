@@ -365,6 +365,12 @@ public final class MachineEdgesTest {
     b.works.set(3, TEXT + 0x1001);
     b.works.set(16, TEXT);
     b.stops(0, 1, 3, TEXT + 0x1001);
+    b.about("V: what an instruction before had in memory is of no matter");
+    b.program("mov eax, [rbx]", "bswap ecx", "cdq", "not eax", "push rax", "setz al");
+    b.works.set(3, LOW);
+    b.stops(1, 1, 0, 0);
+    b.works.set(3, 5);
+    b.stops(5, 5, 0, 0);
     b.about("V: 36: y (which is read in any case)");
     b.program("cmp eax, eax", "cmovnz eax, [rbx]");
     b.works.set(3, 9);
