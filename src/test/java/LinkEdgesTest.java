@@ -688,7 +688,7 @@ public final class LinkEdgesTest {
     b.due("bss is 0", b.works.peek(TEXT + 0x1000), 0);
     b.works.set(16, TEXT + 4001);
     b.stops(0, 1, 4, TEXT + 4001);
-    b.works.clear();
+    b.fresh();
     b.taken(0, "global first, start", "first: start: nop");
     b.links(1);
     b.due("first", b.symbol("first"), TEXT);
