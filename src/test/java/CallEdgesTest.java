@@ -9,6 +9,7 @@ public final class CallEdgesTest {
     fresh();
     fullTape();
     nearest();
+    behindFirst();
     emptyTape();
     mostUnits();
     refusedUnits();
@@ -96,6 +97,30 @@ public final class CallEdgesTest {
     }
   }
 
+  /** What stands on the tape behind the first n bytes is of no matter. */
+  private static void behindFirst() {
+    b.about("3: the first n bytes of the tape are the source");
+    b.fresh();
+    b.feed("if 1\n\n\n\n\n\n\n\n\n\n\n\n\n\n\n\n");
+    b.due("one line", unit(5), -1);
+    b.latestFault(6, 1, 0);
+    b.feed("if 1\n\n\n\n\n\n\n\n\n\n\n\n\n\n\n\n");
+    b.due("one line", unit(4), -1);
+    b.latestFault(6, 1, 0);
+    b.feed("if 1\n\n\n\n\n\n\n\n\n\n\n\n\n\n\n\n");
+    b.due("two lines", unit(6), -1);
+    b.latestFault(6, 2, 0);
+    b.feed("db 12345678901234567");
+    b.due("a number", unit(4), 0);
+    b.due("its byte", b.bytes(0, 0), "01");
+    b.feed("a: nop b: foo 123456");
+    b.due("a line", unit(6), 1);
+    b.due("its byte", b.bytes(1, 0), "90");
+    b.feed("if 0 endif endif nop");
+    b.due("no end", unit(4), -1);
+    b.latestFault(6, 1, 2);
+  }
+
   private static void emptyTape() {
     b.about("3, 9, 11: the tape is empty then, in any case");
     b.fresh();
@@ -149,6 +174,20 @@ public final class CallEdgesTest {
     b.due("the one before stays", b.bytes(0, 0), "07");
     b.taken(1, "db 8");
     b.due("its bytes", b.bytes(1, 0), "08");
+    b.about("3: nor any name of it");
+    b.fresh();
+    b.taken(0, "global a, start", "start: a: nop");
+    b.refused(2, 3, 1, "b: c: d: e: nop", "dq a, start, f, g, h", "foo");
+    b.taken(1, "z: y: x: w: v: u: nop", "keep", "dq a, start, x");
+    b.refused(2, 2, 2, "a: global a", "foo");
+    b.refused(2, 2, 2, "dq a, x", "foo");
+    b.taken(2, "y: v: keep", "dq y, a");
+    b.links(0x40);
+    b.works.load();
+    b.due("a", b.number(Bench.TEXT + 17, 8), Bench.TEXT);
+    b.due("start", b.number(Bench.TEXT + 25, 8), Bench.TEXT);
+    b.due("x", b.number(Bench.TEXT + 33, 8), Bench.TEXT + 16);
+    b.due("a again", b.number(Bench.TEXT + 0x38, 8), Bench.TEXT);
   }
 
   private static void clearing() {

@@ -124,6 +124,14 @@ public final class CodeEdgesTest {
   }
 
   private static void placesAsNumbers() {
+    b.about("I: NAMES that are neither registers nor the words byte dword qword rel equ rep");
+    for (String name : new String[] {"add", "if", "endm", "section", "global", "db", "align", "movsb", "jo", "cmovnz", "text", "nop"}) {
+      b.code("b800000000" + "8b8300000000" + "6800000000" + "e900000000" + "0000000000000000", "mov eax, " + name,
+          "mov eax, [rbx + " + name + "]", "push " + name, "jmp " + name, "dq " + name);
+    }
+    for (String word : new String[] {"byte", "dword", "qword", "rel", "equ", "rep"}) {
+      fails("1", "dq 5 + " + word, "push 5 + " + word, "mov eax, [rbx + " + word + "]", "jmp (" + word + ")", "mov eax, " + word);
+    }
     b.about("II: a PLACE or SPAN counts as a number that fills 4 bytes (with mov to a register of 8 bytes: 8)");
     for (String e : new String[] {"x", "x + 1", "$", "$ - $"}) {
       b.code("48b80000000000000000", "mov rax, " + e);

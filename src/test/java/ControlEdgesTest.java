@@ -132,6 +132,8 @@ public final class ControlEdgesTest {
     b.code("07", "if 0", "if", "if foo", "endif", "endif", "endif", "db 7");
     b.code("07", "if 0", "if 1", "else", "endif", "else", "db 7", "endif");
     b.fault("6@3", "if 0", "if 1", "endif");
+    b.fault("6@4", "if 0", "if", "if", "endif");
+    b.fault("6@4", "rept 0", "rept", "rept", "endr");
     b.code("", "rept 0", "rept", "endr", "endr");
     b.fault("6@3", "rept 0", "rept", "endr");
     b.about("of its own sort: others don't count");
@@ -160,6 +162,9 @@ public final class ControlEdgesTest {
     }
     b.fault("none", "macro m", "rept 1", "endr", "endm", "m");
     b.code("0101", "rept 1", "rept 2", "db 1", "endr", "endr");
+    b.about("6: of a rept that an argument tells, in the lines of a rept");
+    b.fault("6@6", "macro m w", "rept 1", "\\w 1", "endr", "endm", "m rept", "nop");
+    b.fault("none", "macro m w", "rept 1", "\\w 1", "endr", "endm", "m db");
     b.about("6: ahead of its grammar, behind its tokens");
     b.fault("1@4", "macro m", "if \u0001", "endm", "m");
     b.about("at the source's own lines it is told at the last line");
@@ -236,6 +241,16 @@ public final class ControlEdgesTest {
     b.fault("6@3", "macro m a, b", "endm", "m ,,");
     b.fault("6@3", "macro m a, b", "endm", "nop: m 1, 2, 3");
     b.fault("3@3", "macro m a, b", "endm", "nop: m 1, 2");
+    b.about("macro: of each macro its own P");
+    String many = "macro k a, b, c\nendm\nmacro m a\nendm\nmacro n\nendm\nmacro o a, b\nendm\n";
+    b.fault("none", many + "k 1, 2, 3\nm 1\nn\no 1, 2");
+    b.fault("6@9", many + "k 1, 2, 3, 4");
+    b.fault("6@9", many + "m 1, 2");
+    b.fault("6@9", many + "n 1");
+    b.fault("6@9", many + "o 1, 2, 3");
+    b.code("62", "macro m a", "db '\\b'", "endm", "macro n b", "endm", "m 5");
+    b.fault("1@6", "macro m a", "db \\b", "endm", "macro n b", "endm", "m 5");
+    b.code("0507", "macro m a", "db \\a", "endm", "macro n b", "m \\b", "endm", "n 5", "m 7");
     StringBuilder p = new StringBuilder("macro m a");
     StringBuilder a = new StringBuilder("m 1");
     for (int i = 1; i < 500; i++) {

@@ -210,6 +210,15 @@ public final class LinkEdgesTest {
         b.due("wait of " + i, b.number(TEXT + 0x10 * me, 8), next);
       }
     }
+    b.about("IV: a name that all 32 units have, and the first alone misses");
+    b.fresh();
+    b.taken(0, "global start", "start: dq x");
+    for (int i = 1; i < 31; i++) {
+      b.taken(i, i % 2 == 0 ? "x: nop" : "weak x");
+    }
+    b.due("library", b.unit(true, "global x", "x: nop"), 31);
+    b.links(0x11);
+    b.due("x", b.symbol("x"), TEXT + 0x10);
     b.about("IV: the first one each time: what is taken first may have what the next one would be taken for");
     b.fresh();
     b.due("library", b.unit(true, "global b, c", "b: nop", "c: nop"), 0);
@@ -393,6 +402,22 @@ public final class LinkEdgesTest {
       b.due("rodata of " + i, b.works.peek(TEXT + 0x1000 + 16 * i), i + 51);
       b.due("data of " + i, b.works.peek(TEXT + 0x2002 + 16 * i), i + 101);
       b.due("behind it", b.works.peek(TEXT + 0x2003 + 16 * i), 0);
+    }
+    b.about("IV: a name that all 32 units have");
+    for (int which : new int[] {0, 15, 31}) {
+      NativeWorks before = b.works;
+      b.fresh();
+      for (int i = 0; i < 32; i++) {
+        b.taken(i, i == 7 ? "global start\nstart: mov rax, x\nmov rbx, y" : "keep\ndq x", i == which ? "global x\nx: nop" : "nop",
+            i == 0 || i == 31 ? "weak y\ny: nop" : "");
+      }
+      b.due("links", b.link(), true);
+      b.works.load();
+      b.stops(2, 2, 0, 0);
+      b.due("x", b.symbol("x"), b.works.register(0));
+      b.due("in its unit", b.works.where(b.works.register(0)) / 65536, which);
+      b.due("y in the first", b.works.where(b.works.register(3)), which == 0 ? 6 : 5);
+      b.works = before;
     }
     b.due("the last byte of bss", b.works.poke(TEXT + 0x23f3, 1), true);
     b.due("behind it", b.works.poke(TEXT + 0x23f4, 1), false);

@@ -146,6 +146,13 @@ public final class MachineEdgesTest {
       b.due("peek", b.works.peek(at), -1);
       b.due("poke", b.works.poke(at, 1), false);
     }
+    b.about("V: what is not there has no byte");
+    b.program("resb 8");
+    part(TEXT, TEXT + 8, true, false);
+    for (long at : new long[] {0, 1, -1, 0x1000, TEXT + 0x1000}) {
+      b.due("peek", b.works.peek(at), -1);
+      b.due("poke", b.works.poke(at, 1), false);
+    }
     b.about("V: bss alone, data alone, rodata alone");
     b.program("resb 8", "section bss", "keep", "resb 8");
     part(TEXT, TEXT + 8, true, false);
@@ -664,6 +671,14 @@ public final class MachineEdgesTest {
           b.due(lines[i], b.works.register(0), due[i]);
         }
       }
+    }
+    b.about("V: rax, too");
+    b.program("lea rcx, [rbx + rax*4]", "lea rcx, [rax + rbx*2]", "lea rcx, [rax*8]", "lea rcx, [rax]", "lea rcx, [rax + rax]");
+    b.works.set(0, 1000);
+    b.works.set(3, 7);
+    for (long due : new long[] {4007, 1014, 8000, 1000, 2000}) {
+      b.stops(1, 1, 0, 0);
+      b.register(1, due);
     }
     b.about("V: base 16 is the next instruction");
     b.program("lea rax, [rel $]", "lea rcx, [rel start + 1000]", "mov dword [rel x], 5", "section data", "x: dd 0");

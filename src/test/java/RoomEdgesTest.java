@@ -253,6 +253,15 @@ public final class RoomEdgesTest {
       b.due("last of data", b.works.octet(0, 2, 65535), 255);
       b.works.clear();
     }
+    String wide = "dq " + Bench.times(15, "-1, ") + "-1";
+    b.taken(0, "rept 4096", "nop", "endr", "rept 3000", "nop", "endr", "section rodata", "rept 480", wide, "endr", "section data",
+        "rept 480", wide, "endr");
+    for (int s = 0; s < 3; s++) {
+      int size = s == 0 ? 7096 : 61440;
+      b.due("size", b.works.size(0, s), size);
+      b.due("first", b.works.octet(0, s, 0), s == 0 ? 0x90 : 255);
+      b.due("last", b.works.octet(0, s, size - 1), s == 0 ? 0x90 : 255);
+    }
     for (int i = 0; i < 20; i++) {
       b.works.clear();
       b.refused(2, 4, 0, "rept 4096", "dq -1, -1", "endr", "foo");

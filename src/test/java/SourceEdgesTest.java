@@ -116,6 +116,9 @@ public final class SourceEdgesTest {
     b.code("0000000000000080", "dq 0b1" + Bench.times(63, "0"));
     b.code("0100000000000080", "dq 0b0001" + Bench.times(62, "0") + "1");
     b.fault("1@1", "dq 0b1" + Bench.times(64, "0"));
+    b.code("ffffffffffffffff", "dq 0b" + Bench.times(64, "1"));
+    b.fault("1@1", "dq 0b" + Bench.times(65, "1"));
+    b.fault("1@1", "dq 0b" + Bench.times(100, "1"));
     b.code("0500000000000000", "dq " + Bench.times(100, "0") + "5");
     b.about("I: 0x and hexadecimal digits (of both cases)");
     b.code("efcdabefcdab0000" + "9876543210000000", "dq 0xABCDEFabcdef", "dq 0x1032547698");
