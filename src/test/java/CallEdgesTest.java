@@ -174,6 +174,18 @@ public final class CallEdgesTest {
     b.due("the one before stays", b.bytes(0, 0), "07");
     b.taken(1, "db 8");
     b.due("its bytes", b.bytes(1, 0), "08");
+    b.about("3: nor anything that its last line had");
+    b.fresh();
+    b.refused(7, 1, 0, "mov eax, [rbx + 0x80000000]");
+    b.taken(0, "mov eax, 5", "push rax");
+    b.refused(2, 1, 1, "mov eax, [rax + rcx + rdx]");
+    b.taken(1, "mov eax, [rax + rcx]");
+    b.works.clear();
+    b.refused(2, 2, 0, "c equ 77", "foo");
+    b.taken(0, "global start", "start: dq start");
+    b.links(8);
+    b.works.load();
+    b.due("start", b.number(Bench.TEXT, 8), Bench.TEXT);
     b.about("3: nor any name of it");
     b.fresh();
     b.taken(0, "global a, start", "start: a: nop");
@@ -291,6 +303,12 @@ public final class CallEdgesTest {
     for (int odd : ODD) {
       b.due("section " + odd, b.works.octet(0, odd, 0), -1);
       b.due("unit " + odd, b.works.octet(odd, 0, 0), -1);
+    }
+    b.about("7: bytes of bss are 0, whatever other units have");
+    b.make("section bss", "resb 3");
+    b.taken(1, "db 7, 8, 9");
+    for (int i = 0; i < 3; i++) {
+      b.due("of bss", b.works.octet(0, 3, i), 0);
     }
     b.about("7: as it was assembled (what waits is 0)");
     b.make("mov eax, x", "mov dword [x], 0x11223344", "lea rcx, [rel x]", "jmp x", "jz x", "call x", "dd x - 1", "dq $ - 1",

@@ -360,6 +360,7 @@ public final class CodeEdgesTest {
           word + " cl, eax", word + " 5, cl");
     }
     fails("2", "add eax, cl", "bt eax, cl", "mov eax, cl");
+    b.code("01c8" + "c0e005" + "d0e3", "add eax, ecx", "shl al, byte 5", "shl bl, byte 1");
     b.code("00c8" + "0fa3c8", "add al, cl", "bt eax, ecx");
   }
 
@@ -397,7 +398,7 @@ public final class CodeEdgesTest {
     b.code("f3a4f3a5f348a5f3aaf3abf348ab", "rep movsb", "rep movsd", "rep movsq", "rep stosb", "rep stosd", "rep stosq");
     b.code("a4a548a5aaab48ab", "movsb", "movsd", "movsq", "stosb", "stosd", "stosq");
     fails("1", "rep", "rep nop", "rep movsx", "rep movsxd", "rep cdqe", "rep cqo", "rep jo", "rep jno", "rep jmp", "rep setz", "rep cmovz",
-        "rep rep movsb", "rep x", "rep 5", "rep text", "rep bss", "rep rax", "rep if", "rep ,", "rep [movsb]", "rep cmpxchg", "rep xadd");
+        "rep rep movsb", "rep x", "rep 5", "rep text", "rep bss", "rep 119", "rep 120", "rep 124", "rep rax", "rep if", "rep ,", "rep [movsb]", "rep cmpxchg", "rep xadd");
     fails("2", "rep movsb 5", "rep stosq rax", "movsb 5");
     fails("1", "rep movsb,", "rep movsb +");
     fine("x: rep movsb");

@@ -162,6 +162,8 @@ public final class ControlEdgesTest {
     }
     b.fault("none", "macro m", "rept 1", "endr", "endm", "m");
     b.code("0101", "rept 1", "rept 2", "db 1", "endr", "endr");
+    b.about("6: of an else that is read in lines of a macro or rept");
+    b.fault("6@7", "macro m w", "\\w 1", "\\w 1", "endif", "else", "endm", "m if", "nop");
     b.about("6: of a rept that an argument tells, in the lines of a rept");
     b.fault("6@6", "macro m w", "rept 1", "\\w 1", "endr", "endm", "m rept", "nop");
     b.fault("none", "macro m w", "rept 1", "\\w 1", "endr", "endm", "m db");
@@ -262,6 +264,9 @@ public final class ControlEdgesTest {
     b.fault("6@4", p.toString(), "db \\a", "endm", a + ",5");
     p.append(",z");
     b.code("0109", p.toString(), "db \\a, \\z", "endm", a + ",9");
+    b.about("macro: as many A as a line has, as deep as can be");
+    b.fault("6@3", "macro m a\nendm\n" + many(19, "rept 1") + "m " + Bench.times(1022, ",") + "\n" + many(19, "endr"));
+    b.fault("none", "macro m a\nendm\n" + many(19, "rept 1") + "m 5\n" + many(19, "endr"));
     b.about("macro: a line of A alone");
     b.fault("none", p.toString(), "endm", "m " + Bench.times(500, ","));
     b.fault("6@3", p.toString(), "endm", "m " + Bench.times(501, ","));
@@ -378,6 +383,12 @@ public final class ControlEdgesTest {
     b.fault("1@1", "macro m,", "endm");
     b.fault("1@1", "macro m a,", "endm");
     b.fault("1@1", "macro m a,,b", "endm");
+    b.fault("1@1", "macro m 5, a", "endm");
+    b.fault("1@1", "macro m +, a", "endm");
+    b.fault("1@1", "macro m a + b", "endm");
+    b.fault("1@1", "macro m a b c", "endm");
+    b.fault("1@1", "macro m a, b c, d", "endm");
+    b.fault("1@1", "macro m (a)", "endm");
     b.fault("1@1", "macro m 5", "endm");
     b.fault("1@1", "macro m \"a\"", "endm");
     b.fault("3@1", "macro nop 5", "endm");

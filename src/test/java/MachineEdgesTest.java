@@ -781,6 +781,14 @@ public final class MachineEdgesTest {
     b.stops(1, 1, 0, 0);
     b.register(4, TOP);
     b.register(16, 0);
+    b.about("V: 33: without a number by 8 alone, whatever was ahead");
+    b.program("call x", "int3", "resb 20", "x: ret");
+    b.stops(3, 9, 6, 0);
+    b.register(4, TOP);
+    b.program("jmp x", "resb 20", "x: ret");
+    b.works.set(4, TOP - 8);
+    b.stops(2, 2, 0, 0);
+    b.register(4, TOP);
     b.about("V: 32: the next address is pushed, jump to x (read first)");
     b.program("call qword [rsp - 8]");
     b.works.poke(TOP - 8, 0x77);

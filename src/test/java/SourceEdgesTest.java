@@ -72,6 +72,13 @@ public final class SourceEdgesTest {
     none("1@1", "", new String[] {"0a", "9_", "5.", "1x"}, ": nop");
     b.about("I: a name that differs in one letter is another one");
     b.fault("none", "abc: abd: bbc: acc: ab: abcd: Abc: nop");
+    String[] like = {"aBB", "ab", "a0", "aa", "a_", "a.", "abc"};
+    for (String name : like) {
+      b.fault("none", name + ": a: nop");
+      b.fault("none", "a: " + name + ": nop");
+    }
+    b.about("I: LABELS (a NAME and : each)");
+    none("1@1", "", new String[] {"5", "\"a\"", "'a'", "$", "(", "+", ":", "a: 5", "a: :"}, ": nop");
     b.about("I: at most 63 long");
     String most = Bench.times(62, "n");
     b.fault("none", most + "a: " + most + "b: nop");
@@ -122,6 +129,7 @@ public final class SourceEdgesTest {
     b.code("0500000000000000", "dq " + Bench.times(100, "0") + "5");
     b.about("I: 0x and hexadecimal digits (of both cases)");
     b.code("efcdabefcdab0000" + "9876543210000000", "dq 0xABCDEFabcdef", "dq 0x1032547698");
+    none("1@1", "foo ", new String[] {"1x5", "1b1", "9x0", "2b0", "00x1", "00b1", "12ab", "0x1g", "0b12", "1_", "1.", "0b1x"}, "");
     none("1@1", "db ", new String[] {"0x", "0xg", "0xG", "0x/", "0x:", "0x@", "0x`", "0X1", "0xx1", "0x_", "0x."}, "");
     b.about("I: 0b and binary digits");
     b.code("050001", "db 0b101, 0b0, 0b01");
@@ -185,6 +193,11 @@ public final class SourceEdgesTest {
         "\"\\\u007f\"", "\"\"\""}, "");
     b.fault("none", "db \"" + Bench.times(1019, "x") + "\"");
     b.due("its length", b.works.size(0, 0), 1019);
+    b.fault("1@1", "db \"" + Bench.times(1020, "x"));
+    b.fault("1@1", "db \"" + Bench.times(1019, "x") + "\\");
+    b.fault("1@1", "db '" + Bench.times(1020, " "));
+    b.fault("1@1", Bench.times(1023, " ") + "'");
+    b.fault("1@1", Bench.times(1022, " ") + "'\\");
   }
 
   private static void signs() {
@@ -263,6 +276,9 @@ public final class SourceEdgesTest {
       }
       b.due("one of them", of(order[i], 1, 2), weak[i]);
     }
+    b.about("I: ( ) around, and nothing else");
+    none("1@1", "db ", new String[] {"5 ()", "5 (+ 3)", "(5)(+ 3)", "(5, 5)", "(5 : 5)", "(5 [ 5)", "(5 5)", "()", "(5", "5)", "(5))", "((5)",
+        "[5]", "(5]", "5 ~ 3", "5 ~", "~", "5 $", "$ 5", "(* 5)", "5 + * 3", "5 << >> 3", "(5 \"a\" 3)"}, "");
     b.about("I: equal ones from the left to the right");
     b.code("0507", "db 9 - 3 - 1, 9 - 3 + 1");
     b.code("0206", "db 12 / 3 / 2, 12 / 4 * 2");
@@ -352,6 +368,9 @@ public final class SourceEdgesTest {
     String[] fine = {"x", "+x", "++x", "x + 1", "1 + x", "x - 1", "(x)", "+(x) + 1", "x - y", "x - y + 1", "1 + (x - y)",
       "(x - y) - 1", "+(x - y)", "x + 1 - y", "1 + x - y", "x - (y + 1)", "$", "$ + 1", "$ - x", "x - $", "$ - $", "x - x"};
     none("none", "x: y: dq ", fine, "");
+    for (String e : odd) {
+      b.fault("4@1", "x: y: dq " + e, "foo");
+    }
     b.about("FAULTS: 4 a PLACE or SPAN where a CONSTANT must be");
     none("4@1", "x: ", new String[] {"db x", "dw x", "db $", "dw x - x", "db x - x", "z equ x", "z equ x - x", "z equ $",
         "resb x", "resb x - x", "align x", "align $ - x"}, "");
@@ -402,6 +421,15 @@ public final class SourceEdgesTest {
       b.fault("7@1", words[i] + " 0x7fffffffffffffff");
     }
     b.fault("none", "dq 0xffffffffffffffff, 1 << 63");
+    b.about("STATEMENTS: section S: text, rodata, data or bss (another S: fault 1)");
+    none("1@1", "section ", new String[] {"", "code", "Text", "texts", "tex", ".text", "185", "186", "188", "0", "'t'", "\"text\"", "text data", "text,",
+        "rax", "nop", "$", "(text)"}, "");
+    b.about("STATEMENTS: global N, N, .. and weak N, N, ..");
+    for (String word : new String[] {"global", "weak"}) {
+      none("none", word + " ", new String[] {"a", "a, b", "a, a", "a, b, c, d", ".a", "nop", "rax", "byte"}, "");
+      none("1@1", word, new String[] {"", " a,", " ,a", " a b", " a + b", " a : b", " a 5 b", " 5", " a, 5", " \"a\"", " a,,b", " (a)", " $"}, "");
+    }
+    none("1@1", "keep ", new String[] {"5", "a", ",", "text"}, "");
     b.about("STATEMENTS: resb E: 0 .. 65536");
     String[] sections = {"text", "rodata", "data", "bss"};
     for (int s = 0; s < 4; s++) {
