@@ -149,6 +149,11 @@ public final class ChoicesTest {
   }
 
   private static void spansNeedNothing() {
+    b.about("II: A PLACE or SPAN; these bytes WAIT for it (octet: what waits is 0)");
+    b.code("0000000000000000000000000000000005", "x: dd y - x, x - $", "dq y - x + 3", "y: db 5");
+    b.code("0500000000" + "90", "add eax, y - x", "x: nop", "y:");
+    b.fault("none", "rept 4096", "dd y - x", "endr", "x:", "y:");
+    b.fault("5@4", "rept 4096", "dd y - x", "endr", "dd y - x", "x:", "y:");
     b.about("IV: those of whose places some needed section waits for (SPANs wait for none)");
     b.fresh();
     b.taken(0, "global start", "section data", "x: dq 1", "y:", "section text", "start: dq y - x");
